@@ -8,14 +8,14 @@ public final class MatrixScripts {
     private static final int FED_BYTES = 20;
     private static final Called[] CALLED = Called.values();
 
+    private final Script script;
     private final Tape tape;
     private final Page page;
-    private final Script script;
 
     public MatrixScripts() {
-        tape = new Tape();
-        page = new Page();
-        script = new Script(tape, page);
+        script = new Script();
+        tape = script.tape;
+        page = script.page;
     }
 
     public int feed(int a, int b, int c, int d, int e) throws IllegalStateException {
@@ -1072,10 +1072,10 @@ public final class MatrixScripts {
         int doneInAll;
         int fault;
         int faultPlace = NONE;
-        private final Tape tape;
-        private final Page page;
-        private final Values hand = new Values();
-        private final Maker maker = new Maker(hand);
+        final Tape tape = new Tape();
+        final Page page = new Page();
+        private final Maker maker = new Maker();
+        private final Values hand = maker.hand;
         private final int[] key = new int[KEY];
         private int[] keys = new int[16 * KEY];
         private final long[] numbers = new long[4];
@@ -1083,11 +1083,6 @@ public final class MatrixScripts {
         private int numberPlace;
         private boolean doing;
         private int depth;
-
-        Script(Tape tape, Page page) {
-            this.tape = tape;
-            this.page = page;
-        }
 
         void begin() {
             done = 0;
@@ -1421,21 +1416,17 @@ public final class MatrixScripts {
         static final int FROBENIUS_ROWS = 8;
 
         int steps;
-        private final Values hand;
-        private final Calc calc = new Calc();
+        final Values hand = new Values();
+        private final Lattices lattices = new Lattices();
+        private final Elimination elimination = lattices.elimination;
+        private final Polynomials polynomials = new Polynomials();
+        private final Calc calc = elimination.calc;
         private final Matrix a = new Matrix();
         private final Matrix b = new Matrix();
         private final Matrix r = new Matrix();
-        private final Elimination elimination = new Elimination(calc);
-        private final Lattices lattices = new Lattices(calc, elimination);
-        private final Polynomials polynomials = new Polynomials();
         private final Whole first = new Whole();
         private final Whole second = new Whole();
         private final Whole product = new Whole();
-
-        Maker(Values hand) {
-            this.hand = hand;
-        }
 
         boolean takes(int cells, int limbs) {
             return hand.cells + cells <= HAND_CELLS && hand.limbs + limbs <= HAND_LIMBS;
@@ -1810,7 +1801,7 @@ public final class MatrixScripts {
         int rank;
         final Whole pivot = new Whole();
         final Matrix work = new Matrix();
-        private final Calc calc;
+        final Calc calc = new Calc();
         private final Matrix scales = new Matrix();
         private final Whole divisor = new Whole();
         private final Whole otherDivisor = new Whole();
@@ -1821,10 +1812,6 @@ public final class MatrixScripts {
         private boolean odd;
         private int[] table = new int[16];
         private long residue;
-
-        Elimination(Calc calc) {
-            this.calc = calc;
-        }
 
         static boolean isHeavy(int rows, int columns, int bits, int weight) {
             int k = Math.min(rows, columns);
@@ -2133,9 +2120,9 @@ public final class MatrixScripts {
         static final int MOST_SWAPS = 2000;
         static final int ROUNDS = 1000000;
 
-        private final Calc calc;
-        private final Elimination elimination;
-        private final Matrix work;
+        final Elimination elimination = new Elimination();
+        private final Calc calc = elimination.calc;
+        private final Matrix work = elimination.work;
         private final Whole modulus = new Whole();
         private final Whole fa = new Whole();
         private final Whole fb = new Whole();
@@ -2145,12 +2132,6 @@ public final class MatrixScripts {
         private final Whole t2 = new Whole();
         private final Whole t3 = new Whole();
         private int swaps;
-
-        Lattices(Calc calc, Elimination elimination) {
-            this.calc = calc;
-            this.elimination = elimination;
-            this.work = elimination.work;
-        }
 
         /** b is room to work in. */
         int make(Called name, Matrix a, Matrix b, Matrix r) {
