@@ -300,5 +300,8 @@ public final class LimitsTest {
         String many = knapsack(1, 20, 3, 95);
         due8("", "a=swaps(" + many + ");", 2);
         due8("", "a=lll(" + many + ");", 2);
+        // these two take 2000 and 2001
+        Desk.shows("show swaps(" + knapsack(18, 12, 3, 150) + ");", "[2000]|");
+        due8("", "a=swaps(" + knapsack(95, 12, 3, 150) + ");", 2);
     }
 }
