@@ -40,10 +40,12 @@ public final class MatrixScripts {
     public int run() {
         script.begin();
         try {
-            script.pass(false);
-            script.pass(true);
-        } catch (IllegalStateException fault) {
-            script.unfinished();
+            script.read();
+        } catch (IllegalStateException notAScript) {
+            script.dropCode();
+        }
+        for (int i = 0; i < script.codes && script.fault == 0; i++) {
+            script.perform(i);
         }
         tape.bytes = 0;
         return script.fault == 0 ? script.done : script.fault - 100;
@@ -188,20 +190,17 @@ public final class MatrixScripts {
         }
 
         boolean is(int from, int to, String text) {
-            if (to - from != text.length()) {
-                return false;
+            boolean same = to - from == text.length();
+            for (int i = from; i < to && same; i++) {
+                same = byteAt(i) == text.charAt(i - from);
             }
-            for (int i = from; i < to; i++) {
-                if (byteAt(i) != text.charAt(i - from)) {
-                    return false;
-                }
-            }
-            return true;
+            return same;
         }
 
-        /** The number told by these digits, or one beyond all that are allowed behind ; or ^. */
-        long number(int from, int to) {
+        /** The number told there, or one beyond all that are allowed behind ; or ^. */
+        long number(int from) {
             long value = 0;
+            int to = behindWord(from, false);
             for (int i = from; i < to; i++) {
                 value = value > Integer.MAX_VALUE ? value : 10 * value + byteAt(i) - '0';
             }
@@ -224,7 +223,8 @@ public final class MatrixScripts {
             return i;
         }
 
-        private int behindWord(int from, boolean name) {
+        /** Where the name or the number that begins there ends. */
+        int behindWord(int from, boolean name) {
             int i = from;
             for (; i < bytes; i++) {
                 int b = byteAt(i);
@@ -500,6 +500,7 @@ public final class MatrixScripts {
         int limbs;
         final Whole common = new Whole();
         private Whole[] cells = new Whole[16];
+        private int made;
 
         static boolean allows(int rows, int columns) {
             return rows <= SIDE && columns <= SIDE && rows * columns <= CELLS;
@@ -513,6 +514,9 @@ public final class MatrixScripts {
                 Whole[] more = new Whole[Math.max(count, 2 * cells.length)];
                 System.arraycopy(cells, 0, more, 0, cells.length);
                 cells = more;
+            }
+            for (; made < count; made++) {
+                cells[made] = new Whole();
             }
         }
 
@@ -533,7 +537,8 @@ public final class MatrixScripts {
         }
 
         void single(long value) {
-            blank(1, 1);
+            shape(1, 1);
+            common.setLong(1);
             cell(0).setLong(value);
         }
 
@@ -550,15 +555,12 @@ public final class MatrixScripts {
         }
 
         Whole cell(int i) {
-            if (cells[i] == null) {
-                cells[i] = new Whole();
-            }
             return cells[i];
         }
 
         void exchange(int i, int j) {
-            Whole kept = cell(i);
-            cells[i] = cell(j);
+            Whole kept = cells[i];
+            cells[i] = cells[j];
             cells[j] = kept;
         }
 
@@ -576,8 +578,8 @@ public final class MatrixScripts {
             return bits;
         }
 
-        /** Brings COMMON above 0 and all to least terms. */
-        void reduce(Calc calc, Whole divisor) {
+        /** Brings COMMON above 0 and all to least terms, and counts the limbs; false: it is too long for a value. */
+        boolean becomesValue(Calc calc, Whole divisor) {
             boolean turn = common.below;
             divisor.set(common);
             divisor.below = false;
@@ -585,23 +587,17 @@ public final class MatrixScripts {
                 divisor.set(calc.gcd(divisor, cell(i), false));
             }
             boolean least = divisor.isOne();
+            boolean fits = true;
+            limbs = 0;
             for (int i = -1; i < rows * columns; i++) {
                 Whole number = i < 0 ? common : cell(i);
                 if (!least) {
                     calc.divide(number, number, divisor);
                 }
                 number.below = number.size > 0 && number.below != turn;
-            }
-        }
-
-        /** Whether it is a value; counts its limbs. */
-        boolean isValue() {
-            boolean fits = allows(rows, columns);
-            limbs = 0;
-            for (int i = -1; i < rows * columns && fits; i++) {
-                int bits = (i < 0 ? common : cell(i)).bits();
+                int bits = number.bits();
                 limbs += (bits + 31) / 32;
-                fits = bits <= BITS;
+                fits = fits && bits <= BITS;
             }
             return fits && limbs <= LIMBS;
         }
@@ -612,7 +608,7 @@ public final class MatrixScripts {
         static final int MASK = 0x7fffffff;
         static final int BITS = 31;
 
-        int[] limbs = new int[2];
+        int[] limbs = new int[3];
         int size;
         boolean below;
 
@@ -623,16 +619,15 @@ public final class MatrixScripts {
         }
 
         void set(Whole other) {
-            if (other != this) {
-                room(other.size);
-                System.arraycopy(other.limbs, 0, limbs, 0, other.size);
-                size = other.size;
-                below = other.below;
+            if (limbs.length < other.size) {
+                limbs = new int[Math.max(other.size, 2 * limbs.length)];
             }
+            System.arraycopy(other.limbs, 0, limbs, 0, other.size);
+            size = other.size;
+            below = other.below;
         }
 
         void setLong(long value) {
-            room(3);
             below = value < 0;
             long left = value < 0 ? -value : value;
             for (size = 0; size < 3 && left != 0; size++) {
@@ -668,52 +663,38 @@ public final class MatrixScripts {
         }
 
         void add(Whole a, Whole b) {
-            sum(a, b, b.below);
+            sum(a, b, false);
         }
 
         void subtract(Whole a, Whole b) {
-            sum(a, b, !b.below);
+            sum(a, b, true);
         }
 
-        private void sum(Whole a, Whole b, boolean otherBelow) {
-            boolean sign = a.below;
-            if (sign == otherBelow) {
-                addSizes(a.size < b.size ? b : a, a.size < b.size ? a : b);
-            } else if (a.compareSize(b) >= 0) {
-                takeSizes(a, b);
-            } else {
-                takeSizes(b, a);
-                sign = otherBelow;
-            }
-            below = sign;
-            trim();
-        }
-
-        private void addSizes(Whole more, Whole less) {
+        void sum(Whole a, Whole b, boolean minus) {
+            boolean otherBelow = b.below != minus;
+            boolean together = a.below == otherBelow;
+            boolean ahead = a.compareSize(b) >= 0;
+            Whole more = ahead ? a : b;
+            Whole less = ahead ? b : a;
             int count = more.size;
             int part = less.size;
-            room(count + 1);
+            below = ahead ? a.below : otherBelow;
+            if (limbs.length <= count) {
+                limbs = Arrays.copyOf(limbs, Math.max(count + 1, 2 * limbs.length));
+            }
             int carry = 0;
             for (int i = 0; i < count; i++) {
-                int t = more.limbs[i] + (i < part ? less.limbs[i] : 0) + carry;
+                int other = (i < part ? less.limbs[i] : 0) + carry;
+                int t = more.limbs[i] + (together ? other : -other);
                 limbs[i] = t & MASK;
                 carry = t >>> BITS;
             }
             limbs[count] = carry;
-            size = count + 1;
-        }
-
-        private void takeSizes(Whole more, Whole less) {
-            int count = more.size;
-            int part = less.size;
-            room(count);
-            int borrow = 0;
-            for (int i = 0; i < count; i++) {
-                int t = more.limbs[i] - (i < part ? less.limbs[i] : 0) - borrow;
-                limbs[i] = t & MASK;
-                borrow = t >>> BITS;
+            size = carry == 0 ? count : count + 1;
+            for (int i = size; i > 0 && limbs[i - 1] == 0; i--) {
+                size = i - 1;
             }
-            size = count;
+            below = below && size > 0;
         }
 
         private void trim() {
@@ -728,7 +709,9 @@ public final class MatrixScripts {
             int first = a.size;
             int second = b.size;
             int count = first + second;
-            room(count);
+            if (limbs.length < count) {
+                limbs = new int[Math.max(count, 2 * limbs.length)];
+            }
             Arrays.fill(limbs, 0, count, 0);
             int[] to = limbs;
             int[] by = b.limbs;
@@ -764,12 +747,15 @@ public final class MatrixScripts {
         /** Divides its size by a number above 0, whose rest is answered. */
         int divideSmall(int divisor) {
             long rest = 0;
+            int count = 0;
             for (int i = size - 1; i >= 0; i--) {
                 rest = rest << BITS | limbs[i];
                 limbs[i] = (int) (rest / divisor);
                 rest %= divisor;
+                count = count == 0 && limbs[i] != 0 ? i + 1 : count;
             }
-            trim();
+            size = count;
+            below = below && size > 0;
             return (int) rest;
         }
 
@@ -784,12 +770,14 @@ public final class MatrixScripts {
 
         /** Becomes fa a + fb b, the factors of less than 32 bits; it is neither of them itself. */
         void mix(Whole a, long fa, Whole b, long fb) {
-            int count = Math.max(a.size, b.size);
-            room(count + 2);
+            int count = Math.max(a.size, b.size) + 2;
+            if (limbs.length < count) {
+                limbs = new int[Math.max(count, 2 * limbs.length)];
+            }
             long ea = a.below ? -fa : fa;
             long eb = b.below ? -fb : fb;
             long carry = 0;
-            for (int i = 0; i < count + 2; i++) {
+            for (int i = 0; i < count; i++) {
                 carry += i < a.size ? ea * a.limbs[i] : 0;
                 carry += i < b.size ? eb * b.limbs[i] : 0;
                 limbs[i] = (int) carry & MASK;
@@ -797,19 +785,23 @@ public final class MatrixScripts {
             }
             below = carry < 0;
             int one = 1;
-            for (int i = 0; i < count + 2 && below; i++) {
-                int t = (limbs[i] ^ MASK) + one;
-                limbs[i] = t & MASK;
-                one = t >>> BITS;
+            size = 0;
+            for (int i = 0; i < count; i++) {
+                if (below) {
+                    int t = (limbs[i] ^ MASK) + one;
+                    limbs[i] = t & MASK;
+                    one = t >>> BITS;
+                }
+                size = limbs[i] == 0 ? size : i + 1;
             }
-            size = count + 2;
-            trim();
         }
 
-        /** Becomes the size of the other times 2^shift, shift below 31, with a limb of 0 or more on top. */
+        /** Becomes the size of the other times 2^shift, shift below 31, with one limb more, be it 0. */
         void shiftUp(Whole other, int shift) {
             int count = other.size;
-            room(count + 1);
+            if (limbs.length <= count) {
+                limbs = new int[Math.max(count + 1, 2 * limbs.length)];
+            }
             int carry = 0;
             for (int i = 0; i < count; i++) {
                 long t = (long) other.limbs[i] << shift | carry;
@@ -821,12 +813,14 @@ public final class MatrixScripts {
             below = false;
         }
 
-        void shiftDown(int shift) {
-            for (int i = 0; i < size; i++) {
-                long high = i + 1 < size ? limbs[i + 1] : 0;
+        /** Keeps so many limbs, divided by 2^shift. */
+        void shiftDown(int count, int shift) {
+            size = 0;
+            for (int i = 0; i < count; i++) {
+                long high = i + 1 < count ? limbs[i + 1] : 0;
                 limbs[i] = (int) ((high << BITS | limbs[i]) >>> shift) & MASK;
+                size = limbs[i] == 0 ? size : i + 1;
             }
-            trim();
         }
 
         /** Its highest 62 bits, if it had that many bits in all. */
@@ -892,8 +886,7 @@ public final class MatrixScripts {
                 }
                 q.size = m + 1;
                 q.trim();
-                u.size = n;
-                u.shiftDown(shift);
+                u.shiftDown(n, shift);
                 Whole kept = rest;
                 rest = u;
                 u = kept;
@@ -963,7 +956,7 @@ public final class MatrixScripts {
                     rest = kept;
                     if (track) {
                         spareX.multiply(quotient, otherCofactor);
-                        cofactor.subtract(cofactor, spareX);
+                        cofactor.sum(cofactor, spareX, true);
                         kept = cofactor;
                         cofactor = otherCofactor;
                         otherCofactor = kept;
@@ -1051,29 +1044,52 @@ public final class MatrixScripts {
             }
             divide(quotient, a, m);
             if (rest.below) {
-                r.add(rest, m);
+                r.sum(rest, m, false);
             } else {
                 r.set(rest);
             }
         }
     }
 
-    /** Reads the tape's script by its grammar: once for the words alone, then doing it. */
+    /**
+     * Reads the tape's script by its grammar, which makes code of it, and then does this. Code is two
+     * ints for each thing to do, in the order in which they are done: its place in the tape and what
+     * it is, and a number that belongs to it.
+     */
     private static final class Script {
         static final int DEPTH = 30;
         static final int NAMES = 200;
         static final int KEPT_LIMBS = 30000;
         static final int KEPT_CELLS = 20000;
         static final int KEY = 10;
+        static final int CODE_BITS = 5;
+        static final int NUMBER = 0;
+        static final int TELL = 1;
+        static final int FIND_CALLED = 2;
+        static final int NUMBER_BEHIND = 3;
+        static final int CALL = 4;
+        static final int BEGIN_ROW = 5;
+        static final int JOIN = 6;
+        static final int NEGATE = 7;
+        static final int ADD = 8;
+        static final int SUBTRACT = 9;
+        static final int MULTIPLY = 10;
+        static final int DIVIDE = 11;
+        static final int TRANSPOSE = 12;
+        static final int POWER = 13;
+        static final int CLAIM = 14;
+        static final int GIVE = 15;
+        static final int SHOW = 16;
+        static final int CHECK = 17;
 
+        final Tape tape = new Tape();
+        final Page page = new Page();
         /** The values of names; their letters are in keys, four to an int, in the same order. */
         final Values kept = new Values();
         int done;
         int doneInAll;
         int fault;
         int faultPlace = NONE;
-        final Tape tape = new Tape();
-        final Page page = new Page();
         private final Maker maker = new Maker();
         private final Values hand = maker.hand;
         private final int[] key = new int[KEY];
@@ -1081,7 +1097,8 @@ public final class MatrixScripts {
         private final long[] numbers = new long[4];
         private int numberCount;
         private int numberPlace;
-        private boolean doing;
+        int codes;
+        private int[] code = new int[64];
         private int depth;
 
         void begin() {
@@ -1089,81 +1106,55 @@ public final class MatrixScripts {
             fault = 0;
             faultPlace = NONE;
             maker.steps = 0;
-        }
-
-        /** A fault was told: what its statement had at hand goes. */
-        void unfinished() {
             hand.clear();
-        }
-
-        void pass(boolean really) {
-            doing = really;
+            numberCount = 0;
+            codes = 0;
             depth = 0;
             tape.after = 0;
-            advance();
-            for (int words = 0; words <= TAPE_BYTES && tape.kind != Tape.END; words++) {
-                hand.clear();
-                int at = tape.start;
-                if (tape.kind == Tape.SHOW) {
-                    advance();
-                    sum();
-                    take(';');
-                    if (doing && !maker.show(page)) {
-                        fail(8, at);
-                    }
-                } else if (tape.kind == Tape.CHECK) {
-                    advance();
-                    sum();
-                    take('=');
-                    sum();
-                    take(';');
-                    if (doing && !hand.same(0, 1)) {
-                        fail(9, at);
-                    }
-                } else {
-                    give(at, tape.after);
-                }
-                if (doing) {
-                    done++;
-                    doneInAll++;
-                }
-            }
-            hand.clear();
         }
 
-        private void give(int at, int end) {
-            if (tape.kind != Tape.NAME) {
-                fail(2, at);
-            }
+        void dropCode() {
+            codes = 0;
+        }
+
+        void read() {
             advance();
-            take('=');
-            if (doing && called(at, end) != null) {
-                fail(4, at);
-            }
-            sum();
-            take(';');
-            if (doing && !keep(at, end)) {
-                fail(8, at);
+            for (int words = 0; words <= TAPE_BYTES && tape.kind != Tape.END; words++) {
+                int at = tape.start;
+                int kind = tape.kind;
+                if (kind != Tape.SHOW && kind != Tape.CHECK && kind != Tape.NAME) {
+                    fail(2, at);
+                }
+                advance();
+                if (kind == Tape.NAME) {
+                    take('=');
+                    emit(CLAIM, at, 0);
+                }
+                sum();
+                if (kind == Tape.CHECK) {
+                    take('=');
+                    sum();
+                }
+                take(';');
+                emit(kind == Tape.SHOW ? SHOW : kind == Tape.CHECK ? CHECK : GIVE, at, 0);
             }
         }
 
         private void sum() {
-            boolean minus = tape.kind == '-';
+            int sign = tape.kind == '-' ? NEGATE : NUMBER;
             int at = tape.start;
-            if (minus) {
+            if (sign == NEGATE) {
                 advance();
             }
-            term();
-            if (minus && doing) {
-                settle(maker.negate(), at);
-            }
-            for (int words = 0; words <= TAPE_BYTES && (tape.kind == '+' || tape.kind == '-'); words++) {
-                minus = tape.kind == '-';
-                at = tape.start;
-                advance();
+            for (int words = 0; words <= TAPE_BYTES && sign >= 0; words++) {
                 term();
-                if (doing) {
-                    settle(maker.add(minus), at);
+                if (sign != NUMBER) {
+                    emit(sign, at, 0);
+                }
+                at = tape.start;
+                sign = tape.kind == '+' ? ADD : tape.kind == '-' ? SUBTRACT : NONE;
+                if (sign >= 0) {
+                    advance();
                 }
             }
         }
@@ -1171,13 +1162,11 @@ public final class MatrixScripts {
         private void term() {
             factor();
             for (int words = 0; words <= TAPE_BYTES && (tape.kind == '*' || tape.kind == '/'); words++) {
-                boolean times = tape.kind == '*';
+                int sign = tape.kind == '*' ? MULTIPLY : DIVIDE;
                 int at = tape.start;
                 advance();
                 factor();
-                if (doing) {
-                    settle(times ? maker.multiply() : maker.divide(), at);
-                }
+                emit(sign, at, 0);
             }
         }
 
@@ -1187,58 +1176,39 @@ public final class MatrixScripts {
                 int at = tape.start;
                 boolean raised = tape.kind == '^';
                 advance();
-                if (raised) {
-                    raise(at);
-                } else if (doing) {
-                    settle(maker.transpose(), at);
+                if (!raised) {
+                    emit(TRANSPOSE, at, 0);
+                    continue;
                 }
+                boolean minus = tape.kind == '-';
+                if (minus) {
+                    advance();
+                }
+                emit(POWER, at, tape.start << 1 | (minus ? 1 : 0));
+                take(Tape.NUMBER);
             }
-        }
-
-        private void raise(int at) {
-            boolean minus = tape.kind == '-';
-            if (minus) {
-                advance();
-            }
-            int number = tape.start;
-            long power = exponent();
-            if (doing) {
-                int told = maker.power(power, minus);
-                settle(told, told == 6 ? number : at);
-            }
-        }
-
-        private long exponent() {
-            if (tape.kind != Tape.NUMBER) {
-                fail(2, tape.start);
-            }
-            long value = tape.number(tape.start, tape.after);
-            advance();
-            return value;
         }
 
         private void atom() {
             int at = tape.start;
-            int end = tape.after;
             switch (tape.kind) {
                 case Tape.NUMBER:
-                    if (doing) {
-                        settle(maker.number(tape, at, end), at);
-                    }
+                    emit(NUMBER, at, 0);
                     advance();
                     break;
                 case Tape.NAME:
                     advance();
                     if (tape.kind == '(') {
-                        call(at, end);
-                    } else if (doing) {
-                        tell(at, end);
+                        call(at);
+                    } else {
+                        emit(TELL, at, 0);
                     }
                     break;
                 case '(':
                     open();
                     sum();
-                    close(')');
+                    take(')');
+                    depth--;
                     break;
                 case '[':
                     join(at);
@@ -1249,83 +1219,182 @@ public final class MatrixScripts {
             }
         }
 
-        private void call(int at, int end) {
-            Called name = doing ? called(at, end) : null;
-            if (doing && name == null) {
-                fail(3, at);
-            }
+        private void call(int at) {
+            emit(FIND_CALLED, at, 0);
             open();
             int values = 0;
-            if (tape.kind != ')' && tape.kind != ';') {
+            for (int before = tape.kind == ')' || tape.kind == ';' ? NONE : ','; values <= TAPE_BYTES && before == ','; values++) {
                 sum();
-                values = 1;
-                for (; values <= TAPE_BYTES && tape.kind == ','; values++) {
+                before = tape.kind;
+                if (before == ',') {
                     advance();
-                    sum();
                 }
             }
-            readNumbers();
-            close(')');
-            if (doing) {
-                int told = maker.call(name, values, numbers, numberCount);
-                settle(told, told == 6 ? numberPlace : at);
-            }
-        }
-
-        /** The numbers behind ; of a call: none of its values is still to come that could have some, too. */
-        private void readNumbers() {
-            numberCount = 0;
-            int before = ';';
-            for (; numberCount <= TAPE_BYTES && tape.kind == before; numberCount++) {
+            int sign = ';';
+            for (int words = 0; words <= TAPE_BYTES && tape.kind == sign; words++) {
                 advance();
-                if (numberCount == 0) {
-                    numberPlace = tape.start;
-                }
-                long value = exponent();
-                if (numberCount < numbers.length) {
-                    numbers[numberCount] = value;
-                }
-                before = ',';
+                emit(NUMBER_BEHIND, tape.start, 0);
+                take(Tape.NUMBER);
+                sign = ',';
             }
+            take(')');
+            depth--;
+            emit(CALL, at, values);
         }
 
         private void join(int at) {
-            int first = hand.count;
-            int before = tape.kind;
             open();
-            for (int words = 0; words <= TAPE_BYTES && before != ']'; words++) {
-                int next = hand.count;
+            int before = ';';
+            int values = 0;
+            for (; values <= TAPE_BYTES && (before == ',' || before == ';'); values++) {
                 sum();
-                if (doing && before != ',') {
-                    hand.beginRow(next);
+                if (before == ';') {
+                    emit(BEGIN_ROW, at, 0);
                 }
-                before = tape.kind == ',' || tape.kind == ';' ? tape.kind : ']';
-                if (before == ']') {
-                    close(']');
-                } else {
+                before = tape.kind;
+                if (before == ',' || before == ';') {
                     advance();
                 }
             }
-            if (doing) {
-                settle(maker.join(first), at);
+            take(']');
+            depth--;
+            emit(JOIN, at, values);
+        }
+
+        private void open() {
+            if (depth == DEPTH) {
+                fail(2, tape.start);
+            }
+            depth++;
+            advance();
+        }
+
+        private void take(int kind) {
+            if (tape.kind != kind) {
+                fail(2, tape.start);
+            }
+            advance();
+        }
+
+        private void advance() {
+            if (!tape.next()) {
+                fail(1, tape.start);
             }
         }
 
-        private void tell(int at, int end) {
-            int name = called(at, end) == null ? find(at, end) : NONE;
+        private void fail(int told, int at) {
+            fault = told;
+            faultPlace = at;
+            throw new IllegalStateException();
+        }
+
+        private void emit(int what, int at, int number) {
+            if (code.length < 2 * codes + 2) {
+                code = Arrays.copyOf(code, 2 * code.length);
+            }
+            code[2 * codes] = at << CODE_BITS | what;
+            code[2 * codes + 1] = number;
+            codes++;
+        }
+
+        void perform(int i) {
+            int what = code[2 * i] & (1 << CODE_BITS) - 1;
+            int at = code[2 * i] >> CODE_BITS;
+            int number = code[2 * i + 1];
+            int told = 0;
+            switch (what) {
+                case NUMBER:
+                    told = maker.number(tape, at);
+                    break;
+                case TELL:
+                    told = tell(at);
+                    break;
+                case FIND_CALLED:
+                    told = called(at) == null ? 3 : 0;
+                    break;
+                case NUMBER_BEHIND:
+                    noteNumber(at);
+                    break;
+                case CALL:
+                    told = maker.call(called(at), number, numbers, numberCount);
+                    numberCount = 0;
+                    break;
+                case BEGIN_ROW:
+                    hand.beginRow(hand.count - 1);
+                    break;
+                case JOIN:
+                    told = maker.join(hand.count - number);
+                    break;
+                case NEGATE:
+                case TRANSPOSE:
+                    told = what == NEGATE ? maker.negate() : maker.transpose();
+                    break;
+                case ADD:
+                case SUBTRACT:
+                    told = maker.add(what == SUBTRACT);
+                    break;
+                case MULTIPLY:
+                case DIVIDE:
+                    told = what == MULTIPLY ? maker.multiply() : maker.divide();
+                    break;
+                case POWER:
+                    told = maker.power(tape.number(number >> 1), (number & 1) == 1);
+                    break;
+                case SHOW:
+                    told = maker.show(page) ? statement(what, at) : 8;
+                    break;
+                default:
+                    told = statement(what, at);
+                    break;
+            }
+            if (told != 0) {
+                fault = told;
+                faultPlace = told != 6 ? at : what == POWER ? number >> 1 : numberPlace;
+            }
+        }
+
+        /** What is left to do of a statement at its end, and the look at a name ahead of its sum. */
+        private int statement(int what, int at) {
+            if (what == CLAIM) {
+                return called(at) == null ? 0 : 4;
+            }
+            if (what == GIVE && !keep(at)) {
+                return 8;
+            }
+            if (what == CHECK && !hand.same(0, 1)) {
+                return 9;
+            }
+            hand.clear();
+            done++;
+            doneInAll++;
+            return 0;
+        }
+
+        private void noteNumber(int at) {
+            if (numberCount == 0) {
+                numberPlace = at;
+            }
+            if (numberCount < numbers.length) {
+                numbers[numberCount] = tape.number(at);
+            }
+            numberCount++;
+        }
+
+        private int tell(int at) {
+            int name = called(at) == null ? find(at) : NONE;
             if (name == NONE) {
-                fail(3, at);
-                return;
+                return 3;
             }
             if (!maker.takes(kept.rowsOf(name) * kept.columnsOf(name), kept.limbsOf(name))) {
-                fail(8, at);
+                return 8;
             }
             hand.pushFrom(kept, name);
+            return 0;
         }
 
         /** Gives the name the value at hand; false: names would have too much. */
-        private boolean keep(int at, int end) {
-            int name = find(at, end);
+        private boolean keep(int at) {
+            int name = find(at);
             boolean had = name != NONE;
             int cells = kept.cells + hand.cells - (had ? kept.rowsOf(name) * kept.columnsOf(name) : 0);
             int limbs = kept.limbs + hand.limbs - (had ? kept.limbsOf(name) : 0);
@@ -1343,10 +1412,11 @@ public final class MatrixScripts {
             return true;
         }
 
-        private int find(int at, int end) {
+        private int find(int at) {
+            int end = tape.behindWord(at, true);
             Arrays.fill(key, 0);
-            for (int i = at; i < end && i - at < 4 * KEY; i++) {
-                key[i - at >> 2] = key[i - at >> 2] << 8 | tape.byteAt(i);
+            for (int i = 0; i < end - at && i < 4 * KEY; i++) {
+                key[i >> 2] = key[i >> 2] << 8 | tape.byteAt(at + i);
             }
             for (int name = 0; name < kept.count; name++) {
                 int same = 0;
@@ -1359,51 +1429,14 @@ public final class MatrixScripts {
             return NONE;
         }
 
-        private Called called(int at, int end) {
+        private Called called(int at) {
+            int end = tape.behindWord(at, true);
             for (int i = 0; i < CALLED.length; i++) {
                 if (tape.is(at, end, CALLED[i].word)) {
                     return CALLED[i];
                 }
             }
             return null;
-        }
-
-        private void open() {
-            if (depth == DEPTH) {
-                fail(2, tape.start);
-            }
-            depth++;
-            advance();
-        }
-
-        private void close(int sign) {
-            take(sign);
-            depth--;
-        }
-
-        private void take(int sign) {
-            if (tape.kind != sign) {
-                fail(2, tape.start);
-            }
-            advance();
-        }
-
-        private void advance() {
-            if (!tape.next()) {
-                fail(1, tape.start);
-            }
-        }
-
-        private void settle(int told, int at) {
-            if (told != 0) {
-                fail(told, at);
-            }
-        }
-
-        private void fail(int told, int at) {
-            fault = told;
-            faultPlace = at;
-            throw new IllegalStateException();
         }
     }
 
@@ -1437,11 +1470,12 @@ public final class MatrixScripts {
             return page.show(a, calc);
         }
 
-        int number(Tape tape, int from, int to) {
+        int number(Tape tape, int from) {
             if (!step(1)) {
                 return 8;
             }
             r.single(0);
+            int to = tape.behindWord(from, false);
             for (int i = from; i < to; i++) {
                 r.cell(0).multiplySmall(10, tape.byteAt(i) - '0');
             }
@@ -1553,7 +1587,7 @@ public final class MatrixScripts {
             if (minus) {
                 hand.load(top, a);
                 int told = step((cells + 1) * side) ? elimination.make(Called.INVERSE, a, b, 0, r) : 8;
-                if (told != 0 || !isValue()) {
+                if (told != 0 || !r.becomesValue(calc, first)) {
                     return told != 0 ? told : 8;
                 }
                 hand.drop(1);
@@ -1572,7 +1606,7 @@ public final class MatrixScripts {
                         hand.load(top, b);
                     }
                     multiplyLines(a, turn == 0 ? a : b);
-                    if (!isValue()) {
+                    if (!r.becomesValue(calc, first)) {
                         return 8;
                     }
                 }
@@ -1634,6 +1668,51 @@ public final class MatrixScripts {
         }
 
         int call(Called name, int values, long[] numbers, int count) {
+            int told = refuse(name, values, numbers, count);
+            if (told != 0) {
+                return told;
+            }
+            switch (name) {
+                case HERMITE:
+                    told = lattices.hermite(a, b, r);
+                    break;
+                case SMITH:
+                    told = lattices.smith(a, b, r);
+                    break;
+                case LLL:
+                case SWAPS:
+                    told = lattices.lll(a, b, r);
+                    if (name == Called.SWAPS) {
+                        r.single(lattices.swaps);
+                    }
+                    break;
+                case CHARPOLY:
+                case MINPOLY:
+                case FROBENIUS:
+                    told = polynomials.make(name, a, r);
+                    break;
+                case MOD:
+                    told = elimination.residues(a, (int) numbers[0], r) ? 0 : 7;
+                    break;
+                case ID:
+                case ZERO:
+                case PART:
+                    told = cellsOf(name, numbers);
+                    break;
+                case TRACE:
+                case ROWS:
+                case COLUMNS:
+                    count(name);
+                    break;
+                default:
+                    told = elimination.make(name, a, b, count == 0 ? 0 : (int) numbers[0], r);
+                    break;
+            }
+            return told == 0 ? finish(values) : told;
+        }
+
+        /** Loads the values into a and b; faults 5 and 6, and 8 for steps and rows. */
+        private int refuse(Called name, int values, long[] numbers, int count) {
             if (values != name.values || count < name.fewest || count > name.most) {
                 return 5;
             }
@@ -1652,11 +1731,8 @@ public final class MatrixScripts {
                 return 6;
             }
             int times = name.heavy ? Math.min(a.rows, a.columns) : 1;
-            if (name == Called.FROBENIUS && a.rows > FROBENIUS_ROWS || !step((size(a) + size(b) + 1) * times)) {
-                return 8;
-            }
-            int told = name.heavy ? heavy(name, count == 0 ? 0 : (int) numbers[0]) : light(name, numbers);
-            return told == 0 ? finish(values) : told;
+            boolean fine = step((size(a) + size(b) + 1) * times);
+            return fine && (name != Called.FROBENIUS || a.rows <= FROBENIUS_ROWS) ? 0 : 8;
         }
 
         private boolean allows(Called name, long[] n) {
@@ -1672,67 +1748,37 @@ public final class MatrixScripts {
             }
         }
 
-        private int light(Called name, long[] n) {
-            switch (name) {
-                case TRACE:
-                    r.single(0);
-                    r.common.set(a.common);
-                    for (int i = 0; i < a.rows; i++) {
-                        r.cell(0).add(r.cell(0), a.at(i, i));
-                    }
-                    return 0;
-                case ROWS:
-                    r.single(a.rows);
-                    return 0;
-                case COLUMNS:
-                    r.single(a.columns);
-                    return 0;
-                case MOD:
-                    return elimination.residues(a, (int) n[0], r) ? 0 : 7;
-                case PART:
-                    part((int) n[0] - 1, (int) n[1], (int) n[2] - 1, (int) n[3]);
-                    return 0;
-                default:
-                    return plain(name, (int) n[0], (int) n[1]);
-            }
-        }
-
-        private int plain(Called name, int rows, int columns) {
-            if (!Matrix.allows(rows, name == Called.ID ? rows : columns)) {
-                return 8;
-            }
-            if (name == Called.ID) {
-                r.identity(rows);
-            } else {
-                r.blank(rows, columns);
-            }
-            return 0;
-        }
-
-        private void part(int top, int bottom, int left, int right) {
-            r.shape(bottom - top, right - left);
-            r.common.set(a.common);
-            for (int i = top; i < bottom; i++) {
-                for (int j = left; j < right; j++) {
-                    r.at(i - top, j - left).set(a.at(i, j));
+        private void count(Called name) {
+            r.single(name == Called.ROWS ? a.rows : name == Called.COLUMNS ? a.columns : 0);
+            if (name == Called.TRACE) {
+                r.common.set(a.common);
+                for (int i = 0; i < a.rows; i++) {
+                    r.cell(0).add(r.cell(0), a.at(i, i));
                 }
             }
         }
 
-        private int heavy(Called name, int prime) {
-            switch (name) {
-                case HERMITE:
-                case SMITH:
-                case LLL:
-                case SWAPS:
-                    return lattices.make(name, a, b, r);
-                case CHARPOLY:
-                case MINPOLY:
-                case FROBENIUS:
-                    return polynomials.make(name, a, r);
-                default:
-                    return elimination.make(name, a, b, prime, r);
+        private int cellsOf(Called name, long[] n) {
+            int rows = (int) n[0];
+            int columns = (int) n[name == Called.ID ? 0 : 1];
+            if (name == Called.PART) {
+                int top = rows - 1;
+                int left = (int) n[2] - 1;
+                r.shape(columns - top, (int) n[3] - left);
+                r.common.set(a.common);
+                for (int i = 0; i < size(r); i++) {
+                    r.cell(i).set(a.at(top + i / r.columns, left + i % r.columns));
+                }
+                return 0;
             }
+            if (!Matrix.allows(rows, columns)) {
+                return 8;
+            }
+            r.blank(rows, columns);
+            for (int i = 0; i < rows && name == Called.ID; i++) {
+                r.at(i, i).setLong(1);
+            }
+            return 0;
         }
 
         private void multiplyLines(Matrix left, Matrix right) {
@@ -1759,14 +1805,9 @@ public final class MatrixScripts {
             }
         }
 
-        private boolean isValue() {
-            r.reduce(calc, first);
-            return r.isValue();
-        }
-
         /** The result takes the place of the values that went into it. */
         private int finish(int values) {
-            if (!isValue()) {
+            if (!r.becomesValue(calc, first)) {
                 return 8;
             }
             hand.drop(values);
@@ -1942,12 +1983,18 @@ public final class MatrixScripts {
             int bits = 0;
             for (int i = 0; i < a.rows && bits <= WEIGHT; i++) {
                 Whole scale = scales.cell(i);
-                divideRow(a, i, divisor);
-                calc.divide(scale, a.common, divisor);
+                for (int side = 0; side < (b == null ? 1 : 2); side++) {
+                    // what divides COMMON and the row alike needs no multiplying
+                    Matrix m = side == 0 ? a : b;
+                    Whole to = side == 0 ? divisor : otherDivisor;
+                    to.set(m.common);
+                    for (int j = 0; j < m.columns && !to.isOne(); j++) {
+                        to.set(calc.gcd(to, m.at(i, j), false));
+                    }
+                    calc.divide(side == 0 ? scale : t, m.common, to);
+                }
                 factor.setLong(1);
                 if (b != null) {
-                    divideRow(b, i, otherDivisor);
-                    calc.divide(t, b.common, otherDivisor);
                     Whole shared = calc.gcd(scale, t, false);
                     calc.divide(factor, t, shared);
                     calc.divide(otherFactor, scale, shared);
@@ -1970,13 +2017,6 @@ public final class MatrixScripts {
             }
             to.multiply(cell, by);
             return to.bits();
-        }
-
-        private void divideRow(Matrix m, int row, Whole to) {
-            to.set(m.common);
-            for (int j = 0; j < m.columns && !to.isOne(); j++) {
-                to.set(calc.gcd(to, m.at(row, j), false));
-            }
         }
 
         /** Brings work, of whole cells, to rows of stairs; the pivots are in the first columns alone. */
@@ -2010,7 +2050,7 @@ public final class MatrixScripts {
                 Whole cell = work.at(i, j);
                 t.multiply(high, cell);
                 t2.multiply(low, work.at(rank, j));
-                t.subtract(t, t2);
+                t.sum(t, t2, true);
                 if (first) {
                     cell.set(t);
                 } else {
@@ -2049,7 +2089,8 @@ public final class MatrixScripts {
         boolean residues(Matrix a, int prime, Matrix r) {
             long lower = a.common.modulo(prime);
             long inverse = Modular.power(lower, prime - 2, prime);
-            r.blank(a.rows, a.columns);
+            r.shape(a.rows, a.columns);
+            r.common.setLong(1);
             for (int i = 0; i < a.rows * a.columns && lower != 0; i++) {
                 r.cell(i).setLong(a.cell(i).modulo(prime) * inverse % prime);
             }
@@ -2131,29 +2172,19 @@ public final class MatrixScripts {
         private final Whole t = new Whole();
         private final Whole t2 = new Whole();
         private final Whole t3 = new Whole();
-        private int swaps;
+        /** Of the latest lll. */
+        int swaps;
 
-        /** b is room to work in. */
-        int make(Called name, Matrix a, Matrix b, Matrix r) {
+        /** Faults 8 and 7; else work becomes a, and r blank. */
+        private int prepare(Matrix a, Matrix r) {
             if (Elimination.isHeavy(a.rows, a.columns, a.longest(), Elimination.WEIGHT)) {
                 return 8;
-            }
-            if (name == Called.LLL || name == Called.SWAPS) {
-                return reduceLattice(name, a, b, r);
             }
             if (!a.common.isOne()) {
                 return 7;
             }
             work.copy(a);
-            elimination.forward(a.columns);
-            modulus.set(elimination.pivot);
-            modulus.below = false;
             r.blank(a.rows, a.columns);
-            if (name == Called.HERMITE) {
-                hermite(a, b, r);
-            } else {
-                smith(a, b, r);
-            }
             return 0;
         }
 
@@ -2161,7 +2192,14 @@ public final class MatrixScripts {
          * The form of the pivots' columns alone, modulo a determinant of theirs, which keeps all short;
          * the other columns depend on these as they do in the echelon form.
          */
-        private void hermite(Matrix a, Matrix h, Matrix r) {
+        int hermite(Matrix a, Matrix h, Matrix r) {
+            int told = prepare(a, r);
+            if (told != 0) {
+                return told;
+            }
+            elimination.forward(a.columns);
+            modulus.set(elimination.pivot);
+            modulus.below = false;
             int rank = elimination.rank;
             int[] pivots = elimination.pivots;
             h.shape(a.rows, rank);
@@ -2193,6 +2231,7 @@ public final class MatrixScripts {
                     }
                 }
             }
+            return 0;
         }
 
         /** Puts the modulus itself to the row; what is left of it makes the modulus of the rows below. */
@@ -2234,7 +2273,14 @@ public final class MatrixScripts {
          * Each number of the form divides the modulus, a determinant of as many rows as the rank; so
          * the diagonal that is found modulo it tells them all.
          */
-        private void smith(Matrix a, Matrix m, Matrix r) {
+        int smith(Matrix a, Matrix m, Matrix r) {
+            int told = prepare(a, r);
+            if (told != 0) {
+                return told;
+            }
+            elimination.forward(a.columns);
+            modulus.set(elimination.pivot);
+            modulus.below = false;
             int side = Math.min(a.rows, a.columns);
             m.shape(a.rows, a.columns);
             for (int i = 0; i < a.rows * a.columns; i++) {
@@ -2262,6 +2308,7 @@ public final class MatrixScripts {
             for (int k = 0; k < elimination.rank; k++) {
                 r.at(k, k).set(m.at(k, k));
             }
+            return 0;
         }
 
         private boolean findPivot(Matrix m, int k) {
@@ -2318,24 +2365,22 @@ public final class MatrixScripts {
             }
             int along = rows ? m.columns : m.rows;
             for (int c = k; c < along; c++) {
-                mixCells(cell(m, k, c, rows), cell(m, i, c, rows), mixed);
+                own = cell(m, k, c, rows);
+                other = cell(m, i, c, rows);
+                t.multiply(fc, own);
+                if (mixed) {
+                    t2.multiply(fd, other);
+                    t.subtract(t2, t);
+                    t2.multiply(fa, own);
+                    t3.multiply(fb, other);
+                    t2.add(t2, t3);
+                    calc.modulo(own, t2, modulus);
+                } else {
+                    t.subtract(other, t);
+                }
+                calc.modulo(other, t, modulus);
             }
             return mixed;
-        }
-
-        private void mixCells(Whole own, Whole other, boolean mixed) {
-            t.multiply(fc, own);
-            if (mixed) {
-                t2.multiply(fd, other);
-                t3.multiply(fa, own);
-                t.subtract(t2, t);
-                t2.multiply(fb, other);
-                t3.add(t3, t2);
-                calc.modulo(own, t3, modulus);
-            } else {
-                t.subtract(other, t);
-            }
-            calc.modulo(other, t, modulus);
         }
 
         private static Whole cell(Matrix m, int line, int along, boolean rows) {
@@ -2351,8 +2396,11 @@ public final class MatrixScripts {
             }
         }
 
-        /** lll and swaps. Rows are counted from 1; d has the determinants of products, work those times m. */
-        private int reduceLattice(Called name, Matrix a, Matrix d, Matrix r) {
+        /** Rows are counted from 1; d has the determinants of products, work those times m. */
+        int lll(Matrix a, Matrix d, Matrix r) {
+            if (Elimination.isHeavy(a.rows, a.columns, a.longest(), Elimination.WEIGHT)) {
+                return 8;
+            }
             d.shape(1, a.rows + 1);
             work.shape(a.rows, a.rows);
             d.cell(0).setLong(1);
@@ -2388,11 +2436,7 @@ public final class MatrixScripts {
                     k = Math.max(k - 1, 2);
                 }
             }
-            if (name == Called.LLL) {
-                r.copy(a);
-            } else {
-                r.single(swaps);
-            }
+            r.copy(a);
             return 0;
         }
 
@@ -2419,31 +2463,24 @@ public final class MatrixScripts {
         }
 
         private void shorten(Matrix a, Matrix d, int k, int j) {
-            next(share(k, j), d.cell(j));
-            if (fa.size == 0) {
-                return;
-            }
-            for (int c = 0; c < a.columns; c++) {
-                t.multiply(fa, a.at(j - 1, c));
-                a.at(k - 1, c).subtract(a.at(k - 1, c), t);
-            }
-            for (int i = 1; i <= j; i++) {
-                t.multiply(fa, i == j ? d.cell(j) : share(j, i));
-                share(k, i).subtract(share(k, i), t);
-            }
-        }
-
-        /** fa becomes the whole number next to upper over lower, of two as near the even one. */
-        private void next(Whole upper, Whole lower) {
-            t.add(upper, upper);
-            t.add(t, lower);
-            t2.add(lower, lower);
+            // fa becomes the whole number next to share over d, of two as near the even one
+            t.add(share(k, j), share(k, j));
+            t.add(t, d.cell(j));
+            t2.add(d.cell(j), d.cell(j));
             calc.modulo(t3, t, t2);
             t.subtract(t, t3);
             calc.divide(fa, t, t2);
             if (t3.size == 0 && fa.size > 0 && (fa.limbs[0] & 1) == 1) {
                 t.setLong(1);
                 fa.subtract(fa, t);
+            }
+            for (int c = 0; c < a.columns && fa.size > 0; c++) {
+                t.multiply(fa, a.at(j - 1, c));
+                a.at(k - 1, c).subtract(a.at(k - 1, c), t);
+            }
+            for (int i = 1; i <= j && fa.size > 0; i++) {
+                t.multiply(fa, i == j ? d.cell(j) : share(j, i));
+                share(k, i).subtract(share(k, i), t);
             }
         }
 
@@ -2495,6 +2532,7 @@ public final class MatrixScripts {
         private final Modular modular = new Modular();
         /** The factors as they are known so far, modulo the product of the primes that told them. */
         private final Matrix lifted = new Matrix();
+        private final Matrix factors = new Matrix();
         private final Whole modulus = new Whole();
         private final int[] degrees = new int[Modular.SIDE];
         private final Matrix powers = new Matrix();
@@ -2513,7 +2551,24 @@ public final class MatrixScripts {
             if (name == Called.FROBENIUS) {
                 needed = n * (most + 6 + Elimination.log(n)) + 2;
             }
-            lift(name, a, each, needed);
+            start(n);
+            Arrays.fill(degrees, 0);
+            boolean lifting = true;
+            int prime = Integer.MAX_VALUE;
+            for (int count = 0; count < PRIMES && lifting; count++) {
+                modular.find(name, a, prime);
+                int better = compareDegrees();
+                if (better > 0) {
+                    // all primes before were bad ones
+                    start(n);
+                    System.arraycopy(modular.degrees, 0, degrees, 0, degrees.length);
+                }
+                if (better >= 0) {
+                    putTogether(prime);
+                }
+                lifting = modulus.bits() < needed || !areSmall(each);
+                prime = Modular.primeBelow(prime);
+            }
             raise(a.common, n);
             if (name == Called.FROBENIUS) {
                 fillBlocks(n, r);
@@ -2523,31 +2578,9 @@ public final class MatrixScripts {
             return 0;
         }
 
-        private void lift(Called name, Matrix a, int each, int needed) {
-            lifted.blank(1, a.rows);
+        private void start(int n) {
+            lifted.blank(1, n);
             modulus.setLong(1);
-            Arrays.fill(degrees, 0);
-            boolean lifting = true;
-            int prime = Integer.MAX_VALUE;
-            for (int count = 0; count < PRIMES && lifting; count++) {
-                modular.find(name, a, prime);
-                int better = compareDegrees();
-                if (better > 0) {
-                    // all primes before were bad ones
-                    lifted.blank(1, a.rows);
-                    modulus.setLong(1);
-                    System.arraycopy(modular.degrees, 0, degrees, 0, degrees.length);
-                }
-                if (better >= 0) {
-                    putTogether(prime);
-                }
-                lifting = modulus.bits() < needed || !areSmall(each);
-                prime = Modular.primeBelow(prime);
-            }
-            for (int i = 0; i < a.rows; i++) {
-                balance(lifted.cell(i));
-                lifted.cell(i).set(t);
-            }
         }
 
         /** A bad prime has, in the first place where they are unlike, the lesser degree. */
@@ -2571,29 +2604,25 @@ public final class MatrixScripts {
             modulus.multiplySmall(prime, 0);
         }
 
-        /** Whether all factors are as short as those of such polynomials must be. */
+        /** Brings all factors as near 0 as can be; whether they are as short as those of such polynomials must be. */
         private boolean areSmall(int each) {
             boolean small = true;
             int at = 0;
+            factors.shape(1, lifted.columns);
             for (int block = 0; block < degrees.length && degrees[block] > 0; block++) {
                 int degree = degrees[block];
                 for (int i = 0; i < degree; i++) {
-                    balance(lifted.cell(at + i));
-                    small = small && t.bits() <= degree + (degree - i) * each;
+                    Whole factor = factors.cell(at + i);
+                    factor.set(lifted.cell(at + i));
+                    t.add(factor, factor);
+                    if (t.compareSize(modulus) > 0) {
+                        factor.subtract(factor, modulus);
+                    }
+                    small = small && factor.bits() <= degree + (degree - i) * each;
                 }
                 at += degree;
             }
             return small;
-        }
-
-        /** t becomes the number as near 0 as can be. */
-        private void balance(Whole number) {
-            t.add(number, number);
-            if (t.compareSize(modulus) > 0) {
-                t.subtract(number, modulus);
-            } else {
-                t.set(number);
-            }
         }
 
         private void raise(Whole common, int highest) {
@@ -2611,7 +2640,7 @@ public final class MatrixScripts {
             r.common.set(powers.cell(degree));
             r.cell(0).set(r.common);
             for (int i = 0; i < degree; i++) {
-                r.cell(degree - i).multiply(lifted.cell(i), powers.cell(i));
+                r.cell(degree - i).multiply(factors.cell(i), powers.cell(i));
             }
         }
 
@@ -2629,7 +2658,7 @@ public final class MatrixScripts {
                         r.at(corner + i, corner + i - 1).set(r.common);
                     }
                     Whole cell = r.at(corner + i, corner + degree - 1);
-                    t.multiply(lifted.cell(from + i), powers.cell(longest - degree + i));
+                    t.multiply(factors.cell(from + i), powers.cell(longest - degree + i));
                     t2.setLong(0);
                     cell.subtract(t2, t);
                 }
@@ -2845,52 +2874,48 @@ public final class MatrixScripts {
             System.arraycopy(image, 0, vector, 0, n);
         }
 
-        /** degree: how many powers of the matrix times the vector are independent beside what is spanned; way: how the next depends. */
+        /**
+         * degree: how many powers of the matrix times the vector are independent, beside what is
+         * spanned; these go to the basis; way: how the next power depends on them.
+         */
         private void reach(int[] from) {
+            int wide = n + 1;
             held = spanned;
             System.arraycopy(from, 0, vector, 0, n);
             boolean independent = true;
-            degree = -1;
-            for (int power = 0; power <= n && independent; power++) {
-                degree = power;
-                independent = hold(power);
-                advance();
-            }
-        }
-
-        /** Adds the vector to the basis, or, if it depends on it, sets way to how. */
-        private boolean hold(int power) {
-            int row = held * n;
-            int wide = n + 1;
-            System.arraycopy(vector, 0, basis, row, n);
-            Arrays.fill(ways, held * wide, (held + 1) * wide, 0);
-            ways[held * wide + power] = 1;
-            for (int k = 0; k < held; k++) {
-                long times = basis[row + heads[k]];
-                for (int c = 0; c < n && times != 0; c++) {
-                    basis[row + c] = less(basis[row + c], times, basis[k * n + c]);
+            for (degree = NONE; degree < n && independent;) {
+                degree++;
+                int row = held * n;
+                System.arraycopy(vector, 0, basis, row, n);
+                Arrays.fill(ways, held * wide, (held + 1) * wide, 0);
+                ways[held * wide + degree] = 1;
+                for (int k = 0; k < held; k++) {
+                    long times = basis[row + heads[k]];
+                    for (int c = 0; c < n && times != 0; c++) {
+                        basis[row + c] = less(basis[row + c], times, basis[k * n + c]);
+                    }
+                    for (int c = 0; c < wide && times != 0; c++) {
+                        ways[held * wide + c] = less(ways[held * wide + c], times, ways[k * wide + c]);
+                    }
                 }
-                for (int c = 0; c < wide && times != 0; c++) {
-                    ways[held * wide + c] = less(ways[held * wide + c], times, ways[k * wide + c]);
+                int head = 0;
+                for (; head < n && basis[row + head] == 0; head++) {
+                }
+                independent = head < n;
+                if (independent) {
+                    long inverse = power(basis[row + head], prime - 2, prime);
+                    for (int c = 0; c < n; c++) {
+                        basis[row + c] = (int) (basis[row + c] * inverse % prime);
+                    }
+                    for (int c = 0; c < wide; c++) {
+                        ways[held * wide + c] = (int) (ways[held * wide + c] * inverse % prime);
+                    }
+                    heads[held] = head;
+                    held++;
+                    advance();
                 }
             }
-            int head = 0;
-            for (; head < n && basis[row + head] == 0; head++) {
-            }
-            if (head == n) {
-                System.arraycopy(ways, held * wide, way, 0, wide);
-                return false;
-            }
-            long inverse = power(basis[row + head], prime - 2, prime);
-            for (int c = 0; c < n; c++) {
-                basis[row + c] = (int) (basis[row + c] * inverse % prime);
-            }
-            for (int c = 0; c < wide; c++) {
-                ways[held * wide + c] = (int) (ways[held * wide + c] * inverse % prime);
-            }
-            heads[held] = head;
-            held++;
-            return true;
+            System.arraycopy(ways, held * wide, way, 0, wide);
         }
     }
 }
