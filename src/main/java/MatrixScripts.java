@@ -149,7 +149,7 @@ public final class MatrixScripts {
         int after;
 
         void put(int four) {
-            if (words.length < (bytes >> 2) + 2) {
+            if (words.length <= bytes + 3 >> 2) {
                 words = Arrays.copyOf(words, 2 * words.length);
             }
             for (int shift = 24; shift >= 0; shift -= 8) {
@@ -344,7 +344,7 @@ public final class MatrixScripts {
         int count;
         int cells;
         int limbs;
-        int[] data = new int[256];
+        private int[] data = new int[256];
         private int[] starts = new int[16];
         private int used;
 
@@ -355,10 +355,6 @@ public final class MatrixScripts {
             limbs = 0;
             used = 0;
             return had;
-        }
-
-        int startOf(int value) {
-            return starts[value];
         }
 
         int rowsOf(int value) {
@@ -716,6 +712,7 @@ public final class MatrixScripts {
             int[] to = limbs;
             int[] by = b.limbs;
             for (int i = 0; i < first; i++) {
+                // at most (2^31 - 1)^2 and two limbs more, which is below 2^62
                 long factor = a.limbs[i];
                 long carry = 0;
                 for (int j = 0; j < second; j++) {
@@ -1086,6 +1083,7 @@ public final class MatrixScripts {
         final Page page = new Page();
         /** The values of names; their letters are in keys, four to an int, in the same order. */
         final Values kept = new Values();
+        int codes;
         int done;
         int doneInAll;
         int fault;
@@ -1097,7 +1095,6 @@ public final class MatrixScripts {
         private final long[] numbers = new long[4];
         private int numberCount;
         private int numberPlace;
-        int codes;
         private int[] code = new int[64];
         private int depth;
 
@@ -1141,21 +1138,21 @@ public final class MatrixScripts {
         }
 
         private void sum() {
-            int sign = tape.kind == '-' ? NEGATE : NUMBER;
+            boolean minus = tape.kind == '-';
             int at = tape.start;
-            if (sign == NEGATE) {
+            if (minus) {
                 advance();
             }
-            for (int words = 0; words <= TAPE_BYTES && sign >= 0; words++) {
-                term();
-                if (sign != NUMBER) {
-                    emit(sign, at, 0);
-                }
+            term();
+            if (minus) {
+                emit(NEGATE, at, 0);
+            }
+            for (int words = 0; words <= TAPE_BYTES && (tape.kind == '+' || tape.kind == '-'); words++) {
+                int sign = tape.kind == '+' ? ADD : SUBTRACT;
                 at = tape.start;
-                sign = tape.kind == '+' ? ADD : tape.kind == '-' ? SUBTRACT : NONE;
-                if (sign >= 0) {
-                    advance();
-                }
+                advance();
+                term();
+                emit(sign, at, 0);
             }
         }
 
@@ -1316,7 +1313,8 @@ public final class MatrixScripts {
                     noteNumber(at);
                     break;
                 case CALL:
-                    told = maker.call(called(at), number, numbers, numberCount);
+                    Called name = called(at);
+                    told = name == null ? 3 : maker.call(name, number, numbers, numberCount);
                     numberCount = 0;
                     break;
                 case BEGIN_ROW:
@@ -2401,12 +2399,12 @@ public final class MatrixScripts {
             if (Elimination.isHeavy(a.rows, a.columns, a.longest(), Elimination.WEIGHT)) {
                 return 8;
             }
-            d.shape(1, a.rows + 1);
-            work.shape(a.rows, a.rows);
-            d.cell(0).setLong(1);
             if (a.rows > a.columns) {
                 return 7;
             }
+            d.shape(1, a.rows + 1);
+            d.cell(0).setLong(1);
+            work.shape(a.rows, a.rows);
             for (int i = 1; i <= a.rows; i++) {
                 measure(a, d, i);
                 if (d.cell(i).size == 0) {
@@ -2440,11 +2438,12 @@ public final class MatrixScripts {
             return 0;
         }
 
-        /** What m of rows i and j is multiplied with, to be whole, is d of j. */
+        /** m of rows i and j times d of j, which makes it whole. */
         private Whole share(int i, int j) {
             return work.at(i - 1, j - 1);
         }
 
+        /** Finds d of row i, and what of it lies along the rows before it. */
         private void measure(Matrix a, Matrix d, int i) {
             for (int j = 1; j <= i; j++) {
                 t.setLong(0);
@@ -2484,6 +2483,7 @@ public final class MatrixScripts {
             }
         }
 
+        /** Whether row k may stay behind the one before it. */
         private boolean isLong(Matrix d, int k) {
             Whole own = share(k, k - 1);
             t.multiply(own, own);
@@ -2883,8 +2883,8 @@ public final class MatrixScripts {
             held = spanned;
             System.arraycopy(from, 0, vector, 0, n);
             boolean independent = true;
-            for (degree = NONE; degree < n && independent;) {
-                degree++;
+            for (int power = 0; power <= n && independent; power++) {
+                degree = power;
                 int row = held * n;
                 System.arraycopy(vector, 0, basis, row, n);
                 Arrays.fill(ways, held * wide, (held + 1) * wide, 0);
