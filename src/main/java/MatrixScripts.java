@@ -1593,9 +1593,9 @@ public final class MatrixScripts {
             }
             hand.load(top, r);
             int n = (int) exponent;
-            for (int bit = Integer.highestOneBit(n) >> 1; bit > 0; bit >>= 1) {
+            for (int bit = 30 - Integer.numberOfLeadingZeros(n); bit >= 0; bit--) {
                 // P * P, and P * A if the bit is 1
-                for (int turn = 0; turn <= ((n & bit) == 0 ? 0 : 1); turn++) {
+                for (int turn = 0; turn <= (n >> bit & 1); turn++) {
                     if (!step((2 * cells + 1) * side)) {
                         return 8;
                     }

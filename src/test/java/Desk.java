@@ -26,15 +26,17 @@ final class Desk {
         feed(text.getBytes(StandardCharsets.ISO_8859_1));
     }
 
+    /** Twenty at once; those that are left over come first, so that a tape can be filled to the brim. */
     void feed(byte[] bytes) {
         int before = scripts.told(3);
-        for (int i = 0; i < bytes.length; i += 20) {
+        for (int to = bytes.length % 20 == 0 ? 20 : bytes.length % 20; to <= bytes.length; to += 20) {
+            int from = Math.max(0, to - 20);
             int[] five = new int[5];
-            for (int j = 0; j < 20 && i + j < bytes.length; j++) {
-                five[j / 4] |= (bytes[i + j] & 255) << (24 - 8 * (j % 4));
+            for (int j = 0; from + j < to; j++) {
+                five[j / 4] |= (bytes[from + j] & 255) << (24 - 8 * (j % 4));
             }
             scripts.feed(five[0], five[1], five[2], five[3], five[4]);
-            scripts.end(before + Math.min(bytes.length, i + 20));
+            scripts.end(before + to);
         }
     }
 

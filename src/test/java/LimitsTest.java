@@ -13,6 +13,7 @@ public final class LimitsTest {
         cells();
         limbsOfAValue();
         cellsAtHand();
+        fullTapes();
         limbsAtHand();
         names();
         page();
@@ -98,6 +99,25 @@ public final class LimitsTest {
         fine(z, "a=z*(z*(z*z^3));");
         // the arguments have gone into the result when that is there
         fine(z, "check z*(z*z)=part(z;1,32,1,32)';");
+    }
+
+    /** Tapes full of words. */
+    private static void fullTapes() {
+        due8("", "show [" + "1,".repeat(30000) + "1];", 6 + 2 * 4096);
+        due8("", "show [" + "1,".repeat(4095) + "1];", 5);
+        due8("", "show det(" + "1,".repeat(30000) + "1);", 9 + 2 * 4096);
+        Desk.fault("show det(" + "1,".repeat(4095) + "1);", 5, 5);
+        Desk.fault("show id(;" + "1,".repeat(30000) + "1);", 5, 5);
+        Desk.script("show 1" + "'".repeat(65529) + ";", 1, -1, "[1]|");
+        Desk.script("show 1" + "+1".repeat(32700) + ";", 1, -1, "[32701]|");
+        Desk.script("show 1" + "^1".repeat(32700) + ";", 1, -1, "[1]|");
+        Desk.script("a=1;".repeat(16384), 16384, -1, "");
+        Desk.script("show 1;" + " ".repeat(65529), 1, -1, "[1]|");
+        Desk.script("#".repeat(65536), 0, -1, "");
+        Desk.fault("(".repeat(65536), 2, 0);
+        Desk.fault("a=" + "(".repeat(65534), 2, 32);
+        Desk.fault("a".repeat(65536), 1, 0);
+        Desk.fault("9".repeat(65536), 1, 0);
     }
 
     private static void limbsAtHand() {
