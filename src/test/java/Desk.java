@@ -4,19 +4,28 @@ import java.nio.charset.StandardCharsets;
 final class Desk {
     private static int wrong = 0;
     private static int done = 0;
+    private static int sentences = 0;
+    private static String sentence = "";
     final MatrixScripts scripts = new MatrixScripts();
 
     static void due(String what, Object got, Object want) {
         done++;
         if (!got.equals(want)) {
             wrong++;
-            System.out.println(what + " answered " + got + ", due is " + want);
+            System.out.println((sentence.isEmpty() ? "" : "\"" + sentence + "\": ") + what + " answered " + got + ", due is " + want);
         }
+    }
+
+    /** What follows is the test of this sentence of the document. */
+    static void sentence(String text) {
+        sentences++;
+        sentence = text;
     }
 
     /** Ends the test's main method. */
     static void close(String test) {
-        System.out.println(test + ": " + done + " answers, " + wrong + " wrong");
+        String of = sentences == 0 ? "" : " of " + sentences + " sentences";
+        System.out.println(test + ": " + done + " answers" + of + ", " + wrong + " wrong");
         if (wrong > 0 || done == 0) {
             System.exit(1);
         }
@@ -63,20 +72,61 @@ final class Desk {
 
     /** A new object is due to answer this to the text. */
     static void script(String text, int answer, int place, String page) {
-        String shown = text.length() > 200 ? text.substring(0, 200) + ".." : text;
-        due(shown, new Desk().told(text), answer + " " + place + " " + page);
+        due(cut(text), new Desk().told(text), answer + " " + place + " " + page);
+    }
+
+    private static String cut(String text) {
+        return text.length() > 200 ? text.substring(0, 100) + " .. " + text.substring(text.length() - 80) : text;
+    }
+
+    /** A new object with names from a run of their own, which is due to have no fault. */
+    static Desk after(String before) {
+        Desk desk = new Desk();
+        int answer = desk.run(before);
+        due("before: " + cut(before), answer >= 0, true);
+        desk.scripts.wipe();
+        return desk;
+    }
+
+    /** How many statements a text without comments and faults has. */
+    private static int statements(String text) {
+        int depth = 0;
+        int count = 0;
+        for (char c : text.toCharArray()) {
+            depth += c == '(' || c == '[' ? 1 : c == ')' || c == ']' ? -1 : 0;
+            count += c == ';' && depth == 0 ? 1 : 0;
+        }
+        return count;
+    }
+
+    /** Just within a bound: all statements of the text are due to be done. */
+    void within(String text) {
+        int answer = run(text);
+        due(cut(text), answer + " at " + scripts.place(), statements(text) + " at -1");
+    }
+
+    /** Just beyond a bound: the text is due to have this fault at the word behind the mark @, which is not run. */
+    void beyond(int fault, String marked) {
+        int place = marked.indexOf('@');
+        int answer = run(marked.substring(0, place) + marked.substring(place + 1));
+        due(cut(marked), answer + " at " + scripts.place(), (fault - 100) + " at " + place);
+    }
+
+    /** All that can be seen of the object; the page is read whole. */
+    String seen() {
+        return scripts.told(0) + " " + scripts.told(1) + " " + scripts.told(2) + " " + scripts.told(3) + " "
+                + scripts.place() + " " + scripts.length() + " " + page();
     }
 
     /** The text is due to be done without fault, with this page. */
     static void shows(String text, String page) {
-        String got = new Desk().told(text);
-        due(text.length() > 200 ? text.substring(0, 200) + ".." : text, got.substring(got.indexOf(' ', got.indexOf(' ') + 1) + 1), page);
+        due(cut(text), new Desk().told(text), statements(text) + " -1 " + page);
     }
 
     /** The text is due to have this fault there. */
     static void fault(String text, int fault, int place) {
         Desk desk = new Desk();
         int answer = desk.run(text);
-        due(text.length() > 200 ? text.substring(0, 200) + ".." : text, answer + " at " + desk.scripts.place(), (fault - 100) + " at " + place);
+        due(cut(text), answer + " at " + desk.scripts.place(), (fault - 100) + " at " + place);
     }
 }
