@@ -45,7 +45,9 @@ final class Desk {
                 five[j / 4] |= (bytes[from + j] & 255) << (24 - 8 * (j % 4));
             }
             scripts.feed(five[0], five[1], five[2], five[3], five[4]);
-            scripts.end(before + to);
+            if (to - from < 20) {
+                scripts.end(before + to);
+            }
         }
     }
 

@@ -118,12 +118,15 @@ public final class EdgesOfWordsTest {
         new Desk().within("  " + "z".repeat(40) + "=1;");
         new Desk().beyond(1, "@" + "z".repeat(3000) + "=1;");
         Desk.sentence("A NAME stands for itself: 40 bytes long, others in any of them");
+        String letters = "p".repeat(40);
         for (int i = 0; i < 40; i++) {
-            char[] other = NAME_40.toCharArray();
-            other[i] = other[i] == 'x' ? 'y' : 'x';
-            Desk.script(NAME_40 + "=1;" + new String(other) + "=2;show " + NAME_40 + ";show " + new String(other) + ";", 4, -1, "[1]|[2]|");
+            // bytes that have most of their bits in common
+            for (char c : i == 0 ? "Pqxtro".toCharArray() : "P0qxtro_".toCharArray()) {
+                String other = letters.substring(0, i) + c + letters.substring(i + 1);
+                Desk.script(letters + "=1;" + other + "=2;show " + letters + ";show " + other + ";", 4, -1, "[1]|[2]|");
+            }
             if (i > 0) {
-                Desk.script(NAME_40 + "=1;" + NAME_40.substring(0, i) + "=2;show " + NAME_40 + ";", 3, -1, "[1]|");
+                Desk.script(NAME_40 + "=1;" + NAME_40.substring(0, i) + "=2;show " + NAME_40 + ";show " + NAME_40.substring(0, i) + ";", 4, -1, "[1]|[2]|");
             }
         }
     }
@@ -282,6 +285,12 @@ public final class EdgesOfWordsTest {
         Desk.shows("show " + "(".repeat(29) + "(1)+(1)+[1]+det(1)" + ")".repeat(29) + ";", "[4]|");
         new Desk().beyond(2, "show " + "(".repeat(29) + "(1)+(1)+[1]+det(@(1))" + ")".repeat(29) + ";");
         Desk.shows(("show " + "(".repeat(30) + "1" + ")".repeat(30) + ";").repeat(2), "[1]|[1]|");
+        Desk desk = new Desk();
+        for (String open : new String[] {"show ((((", "show [[[[", "show det(det($", "show " + "(".repeat(31), "show det(1/0);", "show [nix];", "show id(;1,1);", "show id(;0);"}) {
+            Desk.due(open, desk.run(open) < 0, true);
+            Desk.due("in the script after that", desk.told("show " + "(".repeat(30) + "1" + ")".repeat(30) + ";"), "1 -1 [1]|");
+            desk.beyond(2, "show " + "(".repeat(30) + "@[1]" + ")".repeat(30) + ";");
+        }
     }
 
     private static void noWord() {
