@@ -18,6 +18,8 @@ public final class DefinitionsTest {
             lattices();
         }
         longNumbers();
+        smallSmith();
+        unluckyPrimes();
         Desk.close("DefinitionsTest");
     }
 
@@ -71,7 +73,35 @@ public final class DefinitionsTest {
         due(Q.text(a) + "-" + Q.text(c), Q.sum(a, Q.of(-1), c));
         Q[][] s = any(n, n, false);
         due(Q.text(s) + "^3", Q.product(Q.product(s, s), s));
+        byName(a, b, s);
         due("det(" + Q.text(s) + ")", new Q[][] {{Q.det(s)}});
+    }
+
+    /** Of names, given by one run and told in another, in between of others. */
+    private static void byName(Q[][] a, Q[][] b, Q[][] s) {
+        Q[][] turned = Q.matrix(a[0].length, a.length);
+        for (int i = 0; i < a.length; i++) {
+            for (int j = 0; j < a[0].length; j++) {
+                turned[j][i] = a[i][j];
+            }
+        }
+        int row = RANDOM.nextInt(a.length);
+        int column = RANDOM.nextInt(a[0].length);
+        Q trace = Q.ZERO;
+        for (int i = 0; i < s.length; i++) {
+            trace = trace.plus(s[i][i]);
+        }
+        String[] sums = {"a'", "-a", "part(a;" + (row + 1) + "," + (row + 1) + "," + (column + 1) + "," + (column + 1) + ")", "a*b", "s^2", "trace(s)", "a", "a/3", "a*(2/5)"};
+        Q[][][] values = {turned, Q.sum(Q.matrix(a.length, a[0].length), Q.of(-1), a), {{a[row][column]}}, Q.product(a, b), Q.product(s, s), {{trace}}, a,
+            Q.sum(Q.matrix(a.length, a[0].length), new Q(BigInteger.ONE, BigInteger.valueOf(3)), a),
+            Q.sum(Q.matrix(a.length, a[0].length), new Q(BigInteger.TWO, BigInteger.valueOf(5)), a)};
+        Desk desk = Desk.after("a=" + Q.text(a) + ";b=" + Q.text(b) + ";s=" + Q.text(s) + ";");
+        for (int times = 0; times < 2 * sums.length; times++) {
+            int i = RANDOM.nextInt(sums.length);
+            String before = new String[] {"x=1;", "x=1/7;", "x=[1/2,1/3];", "x=smith([2,4;6,9]);", "x=a;", ""}[RANDOM.nextInt(6)];
+            String got = desk.told(before + "show " + sums[i] + ";");
+            Desk.due(before + sums[i] + " of " + Q.text(a), got.substring(got.indexOf('[')), Q.text(values[i]) + "|");
+        }
     }
 
     private static void echelons() {
@@ -220,7 +250,24 @@ public final class DefinitionsTest {
     private static void smith() {
         Q[][] a = any(side(4), side(4), true);
         int factor = 1 + RANDOM.nextInt(12);
-        a = Q.sum(a, Q.of(factor - 1), a);
+        smith(Q.sum(a, Q.of(factor - 1), a));
+    }
+
+    /** Numbers that share some divisors. */
+    private static void smallSmith() {
+        int[] numbers = {0, 1, -1, 2, -2, 3, 4, -4, 6, -6, 8, 9, -9, 12, 18};
+        for (int round = 0; round < 1500; round++) {
+            Q[][] a = Q.matrix(side(3), side(3));
+            for (Q[] row : a) {
+                for (int j = 0; j < row.length; j++) {
+                    row[j] = Q.of(numbers[RANDOM.nextInt(numbers.length)]);
+                }
+            }
+            smith(a);
+        }
+    }
+
+    private static void smith(Q[][] a) {
         String sum = "smith(" + Q.text(a) + ")";
         Q[][] s = Q.parse(shown(sum));
         due(sum, s.length == a.length && s[0].length == a[0].length);
@@ -357,6 +404,28 @@ public final class DefinitionsTest {
         }
         due(sum, Q.same(b, rebuilt));
         due(sum, areSimilar(a, b));
+    }
+
+    /** Modulo the greatest primes of 31 bits the forms are others. */
+    private static void unluckyPrimes() {
+        String[] unlucky = {"2147483647", "2147483629", "2147483587", "2147483647*2147483629", "2147483647*2147483629*2147483587"};
+        for (String factors : unlucky) {
+            BigInteger p = BigInteger.ONE;
+            for (String factor : factors.split("\\*")) {
+                p = p.multiply(new BigInteger(factor));
+            }
+            String block = "0, " + p.negate() + "; 1, " + p.add(BigInteger.ONE);
+            Desk.due(factors, shown("frobenius([1,0;0," + p + "])"), "[" + block + "]");
+            Desk.due(factors, shown("minpoly([0," + p + ";0,0])"), "[1, 0, 0]");
+            Desk.due(factors, shown("minpoly([1," + p + ";0,1])"), "[1, -2, 1]");
+            Desk.due(factors, shown("frobenius([0," + p + ";0,0])"), "[0, 0; 1, 0]");
+            Desk.due(factors, shown("frobenius([0,1,0,0;0," + p + ",0,0;0,0,0,0;0,0,0," + p + "])"),
+                    "[0, 0, 0, 0; 1, " + p + ", 0, 0; 0, 0, 0, 0; 0, 0, 1, " + p + "]");
+            Desk.due(factors, shown("frobenius([0,0,0,0;0," + p + ",0,0;0,0,0,1;0,0,0," + p + "])"),
+                    "[0, 0, 0, 0; 1, " + p + ", 0, 0; 0, 0, 0, 0; 0, 0, 1, " + p + "]");
+            Desk.due(factors, shown("frobenius([0,1,0;0,0,0;0,0," + p + "])"), "[0, 0, 0; 1, 0, 0; 0, 1, " + p + "]");
+            Desk.due(factors, shown("charpoly([" + p + ",0;0," + p + "])"), "[1, " + p.add(p).negate() + ", " + p.multiply(p) + "]");
+        }
     }
 
     private static boolean divides(Q[] f, Q[] g) {

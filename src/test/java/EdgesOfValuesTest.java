@@ -121,6 +121,8 @@ public final class EdgesOfValuesTest {
         desk.beyond(8, "a=[1/h,0]@*[1/h;0];");
         desk.beyond(8, "a=(1/h)@^2;");
         desk.beyond(8, "a=2/(3*h)@^2;");
+        // COMMON of what was made before is of no matter
+        desk.within("a=1/x;a=[1/3,2;3,4];a=1/x;a=[1,1/x];a=[1/7,1/11];a=1/x;a=1/3+1/5;a=1/x;a=2/3;a=1/x;a=zero(;2,2);a=1/x;a=id(;2);a=1/x;a=5;");
         desk.within("a=det([1/d/2^999,0;0,1/h]);a=det([1/(h-1),0;0,1/(h-1)]);");
         desk.beyond(8, "a=@det([1/h,0;0,1/h]);");
     }

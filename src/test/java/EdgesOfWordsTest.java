@@ -282,6 +282,11 @@ public final class EdgesOfWordsTest {
         Desk.sentence("DEPTH: those that stand open");
         Desk.shows("show " + "(".repeat(30) + "1" + ")".repeat(30) + "+" + "[".repeat(30) + "1" + "]".repeat(30) + ";", "[2]|");
         Desk.shows("show " + "(1)+".repeat(100) + "1;", "[101]|");
+        Desk.shows("show " + "[1]+".repeat(100) + "1;", "[101]|");
+        Desk.shows("show " + "det(1)+".repeat(100) + "1;", "[101]|");
+        Desk.shows("show " + "id(;1)+".repeat(100) + "1;", "[101]|");
+        Desk.shows("show [1];".repeat(40), "[1]|".repeat(40));
+        Desk.shows("show det(1);".repeat(40), "[1]|".repeat(40));
         Desk.shows("show " + "(".repeat(29) + "(1)+(1)+[1]+det(1)" + ")".repeat(29) + ";", "[4]|");
         new Desk().beyond(2, "show " + "(".repeat(29) + "(1)+(1)+[1]+det(@(1))" + ")".repeat(29) + ";");
         Desk.shows(("show " + "(".repeat(30) + "1" + ")".repeat(30) + ";").repeat(2), "[1]|[1]|");
