@@ -4,6 +4,7 @@ import java.util.Random;
 /** Promise 4: on many matrices, results are what their definitions say. */
 public final class DefinitionsTest {
     private static final Random RANDOM = new Random(20261115);
+    private static final Desk USED = new Desk();
 
     public static void main(String[] args) {
         for (int round = 0; round < 150; round++) {
@@ -23,11 +24,18 @@ public final class DefinitionsTest {
         Desk.close("DefinitionsTest");
     }
 
-    /** What the statement shows; fault and place if there was one. */
+    /** What the statement shows; fault and place if there was one. An object that did others before is due to show the same. */
     private static String shown(String sum) {
-        Desk desk = new Desk();
+        String got = shown(new Desk(), sum);
+        Desk.due("again: " + sum, shown(USED, sum), got);
+        return got;
+    }
+
+    private static String shown(Desk desk, String sum) {
         int answer = desk.run("show " + sum + ";");
-        return answer == 1 ? desk.page().trim() : answer + " " + desk.scripts.place();
+        String page = desk.page().trim();
+        desk.scripts.wipe();
+        return answer == 1 ? page : answer + " " + desk.scripts.place();
     }
 
     private static void due(String sum, Q[][] value) {
