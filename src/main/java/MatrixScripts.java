@@ -508,7 +508,9 @@ public final class MatrixScripts {
             int count = rowCount * columnCount;
             if (cells.length < count) {
                 Whole[] more = new Whole[Math.max(count, 2 * cells.length)];
-                System.arraycopy(cells, 0, more, 0, cells.length);
+                for (int i = 0; i < made; i++) {
+                    more[i] = cells[i];
+                }
                 cells = more;
             }
             for (; made < count; made++) {

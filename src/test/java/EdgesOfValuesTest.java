@@ -32,6 +32,7 @@ public final class EdgesOfValuesTest {
         limbsAtHand();
         latestValue();
         aNumberHasOneCell();
+        numbersBehind();
         putTogether();
         Desk.close("EdgesOfValuesTest");
     }
@@ -430,6 +431,17 @@ public final class EdgesOfValuesTest {
         Desk.sentence("A number is a value of one cell.");
         Desk.shows("show rows(7);show columns(7);show 7';show det(7);show [7]+7;show 7^2;", "[1]|[1]|[7]|[7]|[14]|[49]|");
         new Desk().within("check 7=[7];check 7=id(;1)*7;");
+    }
+
+    private static void numbersBehind() {
+        Desk.sentence("AT HAND are the numbers: atoms of their own, which those behind ; and ^ are not");
+        Desk desk = Desk.after("z=zero(;32,32);o=zero(;31,33);");
+        desk.within("a=z+(z+(z+part(z;1,32,1,32)));a=z+(z+(z+mod(z;7)));a=z+(z+(z+echelon(z;7)));a=z+(z+(z+z^2));a=z+(z+(z+z^-0));");
+        desk.beyond(8, "a=z+(z+(z+(z*@2)));");
+        desk.beyond(5, "a=@[z,z,z,o,id(;1)];");
+        desk.beyond(8, "a=[z,z,z,o,1*@1];");
+        desk.beyond(6, "a=z+(z+(z+mod(z;@4)));");
+        desk.beyond(6, "a=z+(z+(z+z^@1001));");
     }
 
     private static void putTogether() {
